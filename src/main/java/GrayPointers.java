@@ -666,8 +666,7 @@ public final class GrayPointers {
         int read() {
             parts = 0;
             cursor = 0;
-            // One round more than there can be parts: a comma may end the longest text.
-            for (int round = 0; round <= MOST_PARTS; round++) {
+            for (int round = 0; round < MOST_PARTS; round++) {
                 if (!readPart()) {
                     return cursor;
                 }
@@ -678,6 +677,7 @@ public final class GrayPointers {
                     return cursor;
                 }
             }
+            // As many parts fill the longest text: the comma behind the last one ended it too early.
             return cursor;
         }
 

@@ -10,6 +10,7 @@ final class CrossingTest {
         seemsEmptyByATornSample();
         seemsFullThoughItIsNot();
         marks();
+        theFillGoesRound();
         theReaderSeesTheRingAheadOfThePut();
     }
 
@@ -156,6 +157,32 @@ final class CrossingTest {
             Due.is("marks: empty at " + fill, fill == 0 ? 1 : 0, x.side(1, 9));
             x.pass(1);
         }
+    }
+
+    /** Both pointers stand far from 0: the writer's fill is what it has put beyond the reader. */
+    private static void theFillGoesRound() {
+        GrayPointers x = evenClocks(2, true);
+        for (int word = 0; word < 7; word++) {
+            x.push(word);
+        }
+        x.pass(60);
+        Due.is("round: the write pointer", 7, x.side(0, 3));
+        Due.is("round: the pointer that the writer sees", 7, x.side(0, 7));
+        Due.is("round: the writer sees none", 0, x.side(0, 8));
+        x.start(1, false);
+        for (int fill = 1; fill <= 4; fill++) {
+            x.push(fill);
+            x.pass(1);
+            Due.is("round: the fill", fill, x.count(4));
+            Due.is("round: the fill that the writer sees", fill, x.side(0, 8));
+        }
+        Due.is("round: the write pointer beyond the end", 3, x.side(0, 3));
+        Due.is("round: it seems full", 1, x.side(0, 9));
+        x.start(1, true);
+        x.pass(2);
+        Due.is("round: the fill that the reader sees", 4, x.side(1, 8));
+        x.pass(3);
+        Due.is("round: the fill when three are taken", 1, x.side(1, 8));
     }
 
     /** A ring of two places that is used round and round: no word is lost or comes wrong. */

@@ -116,20 +116,30 @@ final class HistoryTest {
         x.pass(40);
         x.start(1, false);
         String before = told(x);
+        int wordBefore = x.taken(0);
         x.keep();
-        x.build(1, true);
         x.setClock(0, 50, 49);
+        x.set(0, 9);
+        x.set(1, 10);
+        x.start(1, true);
+        x.pass(90);
         x.push(1);
+        Due.isTrue("more words came", x.taken(0) != wordBefore);
         String between = told(x);
         Due.isTrue("it changed", !between.equals(before));
         x.restore();
         Due.isTrue("restored: " + told(x), told(x).equals(before));
         x.undo();
         Due.isTrue("undone: " + told(x), told(x).equals(between));
+        x.restore();
+        x.build(1, true);
+        x.undo();
+        Due.isTrue("build undone: " + told(x), told(x).equals(before));
+        x.start(1, true);
+        x.pass(300);
         x.undo();
         x.undo();
-        x.undo();
-        Due.isTrue("undone to the first: " + told(x), told(x).equals(before));
+        Due.isTrue("pass undone: " + told(x), told(x).equals(before));
     }
 
     /** All that is told of a state. */

@@ -160,6 +160,12 @@ final class TextTest {
         x.type('8');
         Due.is("typed behind it", 1, x.pushAll());
         Due.is("waiting(1)", 78, x.waiting(1));
+        x.clearText();
+        x.type('6');
+        Due.is("what was cleared is gone", 1, x.pushAll());
+        Due.is("waiting(2)", 6, x.waiting(2));
+        x.type('x');
+        Due.is("what is not typed is missed", -102, x.pushAll());
     }
 
     private static void theLongestTexts() {

@@ -185,6 +185,7 @@ final class ToldTest {
             Due.is("leastDepth(500) of " + words, least[words], x.leastDepth(500));
             x.push(words);
         }
+        Due.is("in 1 time", 1, x.leastDepth(1));
         Due.is("in 2 times two places are enough", 1, x.leastDepth(2));
         Due.is("in 3 times they are not", 2, x.leastDepth(3));
         Due.is("in 8 times", 3, x.leastDepth(8));
