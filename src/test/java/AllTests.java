@@ -15,6 +15,15 @@ public final class AllTests {
         TextTest.run();
         HistoryTest.run();
         ToldTest.run();
+        RingEdgeTest.run();
+        ClockEdgeTest.run();
+        WordEdgeTest.run();
+        TextEdgeTest.run();
+        HistoryEdgeTest.run();
+        CallEdgeTest.run();
+        ToldEdgeTest.run();
+        RefusedTest.run();
+        BeyondReachTest.run();
         ModelTest.run();
         Due.close();
     }

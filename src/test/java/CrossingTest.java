@@ -14,14 +14,6 @@ final class CrossingTest {
         theReaderSeesTheRingAheadOfThePut();
     }
 
-    private static GrayPointers evenClocks(int k, boolean gray) {
-        GrayPointers x = new GrayPointers();
-        x.build(k, gray);
-        x.setClock(0, 1, 0);
-        x.setClock(1, 1, 0);
-        return x;
-    }
-
     private static void codesOfPointers() {
         int[] codes = {0, 1, 3, 2, 6, 7, 5, 4, 12, 13, 15, 14, 10, 11, 9, 8,
             24, 25, 27, 26, 30, 31, 29, 28, 20, 21, 23, 22, 18, 19, 17, 16};
@@ -48,7 +40,7 @@ final class CrossingTest {
     }
 
     private static void tornInGrayCode() {
-        GrayPointers x = evenClocks(2, true);
+        GrayPointers x = Made.even(2, true);
         int[] first = {0, 3, 3, 2, 6, 6, 6, 6};
         int[] second = {0, 0, 3, 3, 2, 6, 6, 6};
         int[] reader = {0, 0, 0, 1, 2, 3, 4, 4};
@@ -57,7 +49,7 @@ final class CrossingTest {
     }
 
     private static void tornAsItIs() {
-        GrayPointers x = evenClocks(2, false);
+        GrayPointers x = Made.even(2, false);
         int[] first = {0, 3, 2, 1, 4, 4, 4, 4};
         int[] second = {0, 0, 3, 2, 1, 4, 4, 4};
         int[] reader = {0, 0, 0, 1, 2, 3, 4, 4};
@@ -90,7 +82,7 @@ final class CrossingTest {
     /** The write pointer goes from 3 to 4 (all bits) just as the reader samples; the reader is at 1. */
     private static void seemsEmptyByATornSample() {
         for (int gray = 0; gray <= 1; gray++) {
-            GrayPointers x = evenClocks(2, gray == 1);
+            GrayPointers x = Made.even(2, gray == 1);
             x.push(1);
             x.pass(4);
             Due.is("torn: the reader took one", 1, x.side(1, 3));
@@ -112,7 +104,7 @@ final class CrossingTest {
     }
 
     private static void seemsFullThoughItIsNot() {
-        GrayPointers x = evenClocks(1, true);
+        GrayPointers x = Made.even(1, true);
         x.setClock(1, 50, 0);
         x.push(1);
         x.push(2);
@@ -135,7 +127,7 @@ final class CrossingTest {
     }
 
     private static void marks() {
-        GrayPointers x = evenClocks(3, true);
+        GrayPointers x = Made.even(3, true);
         x.start(1, false);
         x.set(0, 3);
         for (int fill = 0; fill <= 8; fill++) {
@@ -161,7 +153,7 @@ final class CrossingTest {
 
     /** Both pointers stand far from 0: the writer's fill is what it has put beyond the reader. */
     private static void theFillGoesRound() {
-        GrayPointers x = evenClocks(2, true);
+        GrayPointers x = Made.even(2, true);
         for (int word = 0; word < 7; word++) {
             x.push(word);
         }
@@ -188,7 +180,7 @@ final class CrossingTest {
     /** A ring of two places that is used round and round: no word is lost or comes wrong. */
     private static void theReaderSeesTheRingAheadOfThePut() {
         for (int gray = 0; gray <= 1; gray++) {
-            GrayPointers x = evenClocks(1, gray == 1);
+            GrayPointers x = Made.even(1, gray == 1);
             for (int word = 0; word < 20; word++) {
                 x.push(word);
             }

@@ -19,6 +19,15 @@ final class Due {
         is(what, 1, so ? 1 : 0);
     }
 
+    static void same(String what, String want, String got) {
+        if (got.equals(want)) {
+            passed++;
+        } else {
+            failed++;
+            System.out.println(what + " told " + got + ", due is " + want);
+        }
+    }
+
     static int failures() {
         return failed;
     }

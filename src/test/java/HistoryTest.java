@@ -115,7 +115,7 @@ final class HistoryTest {
         }
         x.pass(40);
         x.start(1, false);
-        String before = told(x);
+        String before = Told.state(x);
         int wordBefore = x.taken(0);
         x.keep();
         x.setClock(0, 50, 49);
@@ -125,36 +125,20 @@ final class HistoryTest {
         x.pass(90);
         x.push(1);
         Due.isTrue("more words came", x.taken(0) != wordBefore);
-        String between = told(x);
+        String between = Told.state(x);
         Due.isTrue("it changed", !between.equals(before));
         x.restore();
-        Due.isTrue("restored: " + told(x), told(x).equals(before));
+        Due.isTrue("restored: " + Told.state(x), Told.state(x).equals(before));
         x.undo();
-        Due.isTrue("undone: " + told(x), told(x).equals(between));
+        Due.isTrue("undone: " + Told.state(x), Told.state(x).equals(between));
         x.restore();
         x.build(1, true);
         x.undo();
-        Due.isTrue("build undone: " + told(x), told(x).equals(before));
+        Due.isTrue("build undone: " + Told.state(x), Told.state(x).equals(before));
         x.start(1, true);
         x.pass(300);
         x.undo();
         x.undo();
-        Due.isTrue("pass undone: " + told(x), told(x).equals(before));
-    }
-
-    /** All that is told of a state. */
-    private static String told(GrayPointers x) {
-        StringBuilder all = new StringBuilder();
-        for (int what = 0; what <= 13; what++) {
-            all.append(x.side(0, what)).append(' ').append(x.side(1, what)).append(' ');
-        }
-        for (int what = 0; what <= 11; what++) {
-            all.append(x.count(what)).append(' ');
-        }
-        for (int i = 0; i <= 20; i++) {
-            all.append(x.place(i, 0)).append(' ').append(x.place(i, 1)).append(' ');
-            all.append(x.waiting(i)).append(' ').append(x.taken(i)).append(' ');
-        }
-        return all.toString();
+        Due.isTrue("pass undone: " + Told.state(x), Told.state(x).equals(before));
     }
 }

@@ -1,3 +1,6 @@
+import java.lang.reflect.Field;
+import java.lang.reflect.Method;
+import java.lang.reflect.Modifier;
 import java.nio.charset.StandardCharsets;
 import java.nio.file.Files;
 import java.nio.file.Path;
@@ -26,6 +29,26 @@ final class LanguageTest {
         signsAreAscii(all);
         staticFieldsAreFinal(code);
         methodsAreShort(code);
+        sizesAreSmall(GrayPointers.class);
+        Class<?>[] inside = GrayPointers.class.getDeclaredClasses();
+        Due.isTrue("at most 12 classes: " + inside.length, inside.length < 12);
+        for (Class<?> one : inside) {
+            sizesAreSmall(one);
+            Due.isTrue(one + " is static", Modifier.isStatic(one.getModifiers()));
+        }
+    }
+
+    private static void sizesAreSmall(Class<?> one) {
+        int fields = 0;
+        for (Field field : one.getDeclaredFields()) {
+            boolean ofTheClass = Modifier.isStatic(field.getModifiers());
+            fields += ofTheClass ? 0 : 1;
+            Due.isTrue(field + " is final if static", !ofTheClass || Modifier.isFinal(field.getModifiers()));
+        }
+        Due.isTrue(one + " has at most 20 fields: " + fields, fields <= 20);
+        for (Method method : one.getDeclaredMethods()) {
+            Due.isTrue(method + " takes at most 7", method.getParameterCount() <= 7);
+        }
     }
 
     private static String withoutComments(String source) {

@@ -16,14 +16,8 @@ final class TextTest {
 
     private static GrayPointers withText(String text) {
         GrayPointers x = new GrayPointers();
-        typeAll(x, text);
+        Made.type(x, text);
         return x;
-    }
-
-    private static void typeAll(GrayPointers x, String text) {
-        for (int i = 0; i < text.length(); i++) {
-            x.type(text.charAt(i));
-        }
     }
 
     private static void fault(String text, int fault) {
@@ -137,7 +131,7 @@ final class TextTest {
         Due.is("once more", 11, x.pushAll());
         GrayPointers y = new GrayPointers();
         y.push(4);
-        typeAll(y, "5,.42");
+        Made.type(y, "5,.42");
         Due.is("words that are taken do not count", 1, y.pushAll());
         Due.is("taken in it", 1, y.count(7));
     }
@@ -171,18 +165,18 @@ final class TextTest {
     private static void theLongestTexts() {
         GrayPointers x = new GrayPointers();
         for (int i = 0; i < 30; i++) {
-            typeAll(x, "1,");
+            Made.type(x, "1,");
         }
         Due.is("a comma ends 60 signs", -160, x.pushAll());
         x.clearText();
         for (int i = 0; i < 29; i++) {
-            typeAll(x, "1,");
+            Made.type(x, "1,");
         }
-        typeAll(x, "10");
+        Made.type(x, "10");
         x.setClock(0, 1, 0);
         Due.is("30 words, none of them put", FULL, x.pushAll());
         x.clearText();
-        typeAll(x, "1,2,.9,3,4,5,.9,6,7,8,.9,9x9,.9,1x9,.99,0x9,.99,11x2,.9,12x2");
+        Made.type(x, "1,2,.9,3,4,5,.9,6,7,8,.9,9x9,.9,1x9,.99,0x9,.99,11x2,.9,12x2");
         Due.is("60 signs", 60, x.count(13));
         x.setClock(1, 1, 0);
         Due.is("60 signs: pushAll()", 39, x.pushAll());

@@ -84,21 +84,15 @@ final class WordTest {
         Due.is("bound: doneIn() goes beyond", 4, x.doneIn());
         Due.is("bound: leastDepth() goes beyond", 1, x.leastDepth(500));
         Due.is("bound: states", 4, x.count(12));
-        typeAll(x, "7x2,.1,.1");
+        Made.type(x, "7x2,.1,.1");
         Due.is("bound: pushAll()", FULL, x.pushAll());
         Due.is("bound: one waits still", 1, x.count(5));
         Due.is("bound: the time stays", 999999, x.count(0));
         x.clearText();
-        typeAll(x, "7x2,.1");
+        Made.type(x, "7x2,.1");
         Due.is("bound: pushAll() to the end", 2, x.pushAll());
         Due.is("bound: the end", 1000000, x.count(0));
         Due.is("bound: pass(1)", FULL, x.pass(1));
         Due.is("bound: the clock's next tick", 1, x.side(0, 11));
-    }
-
-    private static void typeAll(GrayPointers x, String text) {
-        for (int i = 0; i < text.length(); i++) {
-            x.type(text.charAt(i));
-        }
     }
 }
