@@ -1,14 +1,14 @@
 import java.nio.file.Path;
 
-/** Runs every test of the project; the argument is the path of GrayPointers.java. */
+/** Runs every test of the project, in its directory. */
 public final class AllTests {
     private AllTests() {
     }
 
     public static void main(String[] args) throws Exception {
-        Path source = Path.of(args.length > 0 ? args[0] : "src/main/java/GrayPointers.java");
         FaceTest.run();
-        LanguageTest.run(source);
+        LanguageTest.run(Path.of("src/main/java/GrayPointers.java"));
+        ReadmeTest.run(Path.of("README.md"), Path.of("src/test/java"));
         RingTest.run();
         CrossingTest.run();
         WordTest.run();

@@ -81,9 +81,9 @@ final class RingTest {
         int ticks = x.side(0, 12);
         int torn = x.side(1, 13);
         Due.isTrue("build: there were ticks and torn samples", ticks > 0 && torn > 0);
-        int states = x.count(12);
+        Due.is("build: four states are there", 4, x.count(12));
         Due.is("build(1, true)", 2, x.build(1, true));
-        Due.is("build: an act, the oldest state of four is dropped", 4, Math.max(states, x.count(12)));
+        Due.is("build: an act, the oldest state of four is dropped", 4, x.count(12));
         Due.is("build: time", 6, x.count(0));
         Due.is("build: setting 0", 3, x.count(10));
         Due.is("build: setting 1", 2, x.count(11));
